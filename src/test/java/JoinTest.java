@@ -63,7 +63,7 @@ public final class JoinTest {
     private static void everyPair() {
         MoverHall hall = new MoverHall();
         for (int i = 0; i < 32; i++) {
-            hall.sector(i, 100, 0, 0, 0);
+            hall.sector(i, 100 - i, 0, 0, 0);
         }
         for (int i = 0; i < 31; i++) {
             CHECK.is("join(31, " + i + ")", hall.join(31, i), true);
@@ -74,6 +74,11 @@ public final class JoinTest {
             CHECK.is("are(0, " + i + ")", hall.are(0, i), i == 31);
         }
         CHECK.is("pairs", hall.look(1), 31);
-        CHECK.is("high floor of 0", hall.of(0, 7), 31);
+        int[] dueOfFirst = {0, 31, 69};
+        int[] dueOfLast = {0, 31, 70};
+        for (int i = 0; i < 3; i++) {
+            CHECK.is("of(0, " + (6 + i) + ")", hall.of(0, 6 + i), dueOfFirst[i]);
+            CHECK.is("of(31, " + (6 + i) + ")", hall.of(31, 6 + i), dueOfLast[i]);
+        }
     }
 }

@@ -50,6 +50,9 @@ public final class OfTest {
         CHECK.is("low floor, its own", hall.of(1, 6), -5);
         CHECK.is("low floor of one joined", hall.of(2, 6), 0);
         CHECK.is("high floor, its own", hall.of(2, 7), 6);
+        MoverHall other = Halls.pair(10, 50, 0, 90);
+        CHECK.is("high floor of SECTOR 0", other.of(1, 7), 10);
+        CHECK.is("low ceiling of SECTOR 0", other.of(1, 8), 50);
         MoverHall high = Halls.pair(0, 5, 0, 1024);
         CHECK.is("highest low ceiling", high.of(0, 8), 1024);
     }
