@@ -140,5 +140,14 @@ public final class BlocksTest {
         lift.ticks(34);
         CHECK.is("lift stays", lift.of(0, 3), 1);
         CHECK.is("blocked", lift.look(5), 3);
+        MoverHall door = Halls.alone(0, 8);
+        door.begin(0, 0);
+        door.ticks(22);
+        CHECK.is("shut and ended", door.of(0, 3), MoverHall.NONE);
+        door.begin(0, 0);
+        door.enter(0);
+        door.ticks(22);
+        CHECK.is("door goes up again", door.of(0, 4), 1);
+        CHECK.is("blocked", door.look(5), 1);
     }
 }
