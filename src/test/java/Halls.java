@@ -31,6 +31,16 @@ final class Halls {
         return hall;
     }
 
+    /** 32 SECTORS without NEIGHBOURS, all of TAG 5. */
+    static MoverHall full() {
+        MoverHall hall = new MoverHall();
+        for (int i = 0; i < 32; i++) {
+            hall.sector(i, i + 100, i % 16, i % 4, 5);
+        }
+        return hall;
+    }
+
+    /** These are many calls, and count among the 512 of the document: LastCallsTest, which needs those, takes none. */
     static String picture(MoverHall hall) {
         StringBuilder text = new StringBuilder();
         for (int which = 0; which < 6; which++) {

@@ -1,121 +1,121 @@
-/** Promise 10; BeginTest and TicksTest see to what 3, 4, 5 and 9 of it answer as time goes on. */
+/** Promise 10; HeightsAroundTest, LightTest, TicksTest and WaysTest see to what of() answers as time goes on. */
 public final class OfTest {
     private static final Check CHECK = new Check();
 
     public static void main(String[] args) {
-        wrongInputs();
+        noSuchSector();
+        noSuchWhat();
+        noneOfBoth();
+        noSectorsAtAll();
         withoutMover();
-        heightsAround();
-        heightsAroundAreThoseOfNow();
-        steadyLight();
-        flickeringLight();
-        blinkingLight();
-        dimmedLight();
+        withMover();
+        whereItGoesAndHowLongItWaits();
+        endOfItsWayThroughout();
         CHECK.done();
     }
 
-    private static void wrongInputs() {
+    /** "100000 if there is no such SECTOR" */
+    private static void noSuchSector() {
         MoverHall hall = Halls.fourRooms();
-        int[] wrong = {-1, 10, 32, Integer.MIN_VALUE, Integer.MAX_VALUE};
+        int[] wrong = {-1, 4, 5, 31, 32, -32, Integer.MIN_VALUE, Integer.MAX_VALUE};
         for (int w : wrong) {
-            CHECK.is("of(0, " + w + ")", hall.of(0, w), 100000);
-            CHECK.is("of(" + w + ", 0)", hall.of(w, 0), 100000);
-            CHECK.is("of(" + w + ", " + w + ")", hall.of(w, w), 100000);
+            for (int what = 0; what < 10; what++) {
+                CHECK.is("of(" + w + ", " + what + ")", hall.of(w, what), 100000);
+            }
         }
-        CHECK.is("of(4, 3)", hall.of(4, 3), 100000);
+        CHECK.is("of(3, 0), the last", hall.of(3, 0), -40);
     }
 
-    private static void withoutMover() {
-        MoverHall hall = Halls.alone(-7, 9);
-        int[] due = {-7, 9, 15, -1, 0, 0, -7, -7, 9, -1};
-        for (int what = 0; what < due.length; what++) {
-            CHECK.is("of(0, " + what + ")", hall.of(0, what), due[what]);
-        }
-    }
-
-    private static void heightsAround() {
-        MoverHall hall = new MoverHall();
-        hall.sector(0, 100, 0, 0, 0);
-        hall.sector(-5, 200, 0, 0, 0);
-        hall.sector(6, 150, 0, 0, 0);
-        hall.sector(-1000, 1, 0, 0, 0);
-        hall.join(0, 1);
-        CHECK.is("low floor", hall.of(0, 6), -5);
-        CHECK.is("high floor, its own", hall.of(0, 7), 0);
-        CHECK.is("low ceiling, not its own", hall.of(0, 8), 200);
-        hall.join(2, 0);
-        CHECK.is("low floor", hall.of(0, 6), -5);
-        CHECK.is("high floor", hall.of(0, 7), 6);
-        CHECK.is("low ceiling", hall.of(0, 8), 150);
-        CHECK.is("low floor, its own", hall.of(1, 6), -5);
-        CHECK.is("low floor of one joined", hall.of(2, 6), 0);
-        CHECK.is("high floor, its own", hall.of(2, 7), 6);
-        MoverHall other = Halls.pair(10, 50, 0, 90);
-        CHECK.is("high floor of SECTOR 0", other.of(1, 7), 10);
-        CHECK.is("low ceiling of SECTOR 0", other.of(1, 8), 50);
-        MoverHall high = Halls.pair(0, 5, 0, 1024);
-        CHECK.is("highest low ceiling", high.of(0, 8), 1024);
-    }
-
-    private static void heightsAroundAreThoseOfNow() {
-        MoverHall hall = Halls.pair(0, 100, 20, 40);
-        hall.begin(1, 1);
-        hall.ticks(2);
-        CHECK.is("high floor", hall.of(0, 7), 12);
-        hall.ticks(200);
-        hall.begin(1, 0);
-        hall.ticks(2);
-        CHECK.is("low ceiling", hall.of(0, 8), 56);
-    }
-
-    private static MoverHall lit(int light, int kind) {
-        MoverHall hall = new MoverHall();
-        hall.sector(0, 100, light, kind, 0);
-        for (int i = 0; i < 20; i++) {
-            hall.sector(0, 100, 0, 0, 1);
-        }
-        return hall;
-    }
-
-    private static void steadyLight() {
-        MoverHall hall = lit(11, 0);
-        hall.tag(1, 0);
-        for (int tick = 0; tick < 100; tick++) {
-            CHECK.is("steady at " + tick, hall.of(0, 2), 11);
-            hall.ticks(1);
-        }
-    }
-
-    private static void flickeringLight() {
-        for (int light = 0; light < 16; light++) {
-            MoverHall hall = lit(light, 1);
-            for (int tick = 0; tick < 40; tick++) {
-                boolean bright = tick < 4 || tick >= 16 && tick < 20 || tick >= 32 && tick < 36;
-                CHECK.is("flickering at " + tick, hall.of(0, 2), bright ? light : light >> 1);
-                hall.ticks(1);
+    /** "100000 if there is no such .. what" */
+    private static void noSuchWhat() {
+        MoverHall hall = Halls.fourRooms();
+        int[] wrong = {-1, -2, 10, 11, 16, Integer.MIN_VALUE, Integer.MAX_VALUE};
+        for (int w : wrong) {
+            for (int sector = 0; sector < 4; sector++) {
+                CHECK.is("of(" + sector + ", " + w + ")", hall.of(sector, w), 100000);
             }
         }
     }
 
-    private static void blinkingLight() {
-        MoverHall hall = lit(13, 2);
-        for (int tick = 0; tick < 140; tick++) {
-            boolean bright = tick < 32 || tick >= 64 && tick < 96 || tick >= 128;
-            CHECK.is("blinking at " + tick, hall.of(0, 2), bright ? 13 : 0);
-            hall.ticks(1);
+    private static void noneOfBoth() {
+        MoverHall hall = Halls.fourRooms();
+        CHECK.is("of(-1, -1)", hall.of(-1, -1), 100000);
+        CHECK.is("of(4, 10)", hall.of(4, 10), 100000);
+    }
+
+    private static void noSectorsAtAll() {
+        for (int what = -1; what <= 10; what++) {
+            CHECK.is("of(0, " + what + ")", new MoverHall().of(0, what), 100000);
+            CHECK.is("of(-1, " + what + ")", new MoverHall().of(-1, what), 100000);
         }
     }
 
-    private static void dimmedLight() {
-        MoverHall hall = lit(3, 3);
-        int[] due = {3, 2, 1, 0, 0, 0};
-        for (int movers = 0; movers < due.length; movers++) {
-            CHECK.is("dimmed by " + movers, hall.of(0, 2), due[movers]);
-            hall.begin(20 - movers, 2);
+    /** "NONE without one", "0 if it WAITS, or there is none", "0 if it does not", "NONE without a MOVER" */
+    private static void withoutMover() {
+        int[] due = {-7, 9, 15, -1, 0, 0, -7, -7, 9, -1};
+        MoverHall hall = Halls.alone(-7, 9);
+        for (int what = 0; what < due.length; what++) {
+            CHECK.is("of(0, " + what + ")", hall.of(0, what), due[what]);
         }
+        hall.begin(0, 2);
         hall.ticks(1);
-        CHECK.is("movers have ended", hall.of(0, 2), 3);
-        hall.begin(0, 1);
-        CHECK.is("dimmed by its own", hall.of(0, 2), 2);
+        for (int what = 0; what < due.length; what++) {
+            CHECK.is("of(0, " + what + ") of one that has ended", hall.of(0, what), due[what]);
+        }
+    }
+
+    private static void withMover() {
+        int[] ways = {1, -1, 1};
+        int[] ends = {56, -10, 20};
+        for (int what = 0; what < 3; what++) {
+            MoverHall hall = Halls.pair(0, 50, what == 1 ? -10 : 20, 60);
+            hall.begin(0, what);
+            CHECK.is("mover", hall.of(0, 3), what);
+            CHECK.is("way", hall.of(0, 4), ways[what]);
+            CHECK.is("wait", hall.of(0, 5), 0);
+            CHECK.is("end", hall.of(0, 9), ends[what]);
+            CHECK.is("none beside it", hall.of(1, 3), MoverHall.NONE);
+        }
+    }
+
+    /** "1 up, -1 down, 0 if it WAITS", "how long it still has to wait (0 if it does not)" */
+    private static void whereItGoesAndHowLongItWaits() {
+        MoverHall door = Halls.pair(0, 50, 0, 63);
+        door.begin(0, 0);
+        stands(door, 1, 1, 0);
+        stands(door, 1, 0, 20);
+        stands(door, 19, 0, 1);
+        stands(door, 1, -1, 0);
+        stands(door, 7, -1, 0);
+        stands(door, 1, 0, 0);
+        MoverHall lift = Halls.pair(0, 50, -8, 50);
+        lift.begin(0, 1);
+        stands(lift, 1, -1, 0);
+        stands(lift, 1, 0, 30);
+        stands(lift, 29, 0, 1);
+        stands(lift, 1, 1, 0);
+        stands(lift, 1, 1, 0);
+        stands(lift, 1, 0, 0);
+    }
+
+    private static void stands(MoverHall hall, int ticks, int way, int wait) {
+        int now = hall.ticks(ticks);
+        CHECK.is("way at " + now, hall.of(0, 4), way);
+        CHECK.is("wait at " + now, hall.of(0, 5), wait);
+    }
+
+    /** "TOP of a DOOR or RISER, BOTTOM of a LIFT", wherever on its way that is. */
+    private static void endOfItsWayThroughout() {
+        int[] due = {56, -10, 20};
+        for (int what = 0; what < 3; what++) {
+            MoverHall hall = Halls.pair(0, 50, what == 1 ? -10 : 20, 60);
+            hall.begin(0, what);
+            for (int tick = 0; tick < 100; tick++) {
+                boolean moves = hall.of(0, 3) != MoverHall.NONE;
+                CHECK.is("end at " + tick, hall.of(0, 9), moves ? due[what] : MoverHall.NONE);
+                hall.ticks(1);
+            }
+            CHECK.is("ended", hall.of(0, 3), MoverHall.NONE);
+        }
     }
 }

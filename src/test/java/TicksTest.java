@@ -1,10 +1,12 @@
-/** Promise 9: how MOVERS move, tick by tick. */
+/** Promise 9, and TICK of the Terms: whole ways, tick by tick. */
 public final class TicksTest {
     private static final int NONE = MoverHall.NONE;
     private static final Check CHECK = new Check();
 
     public static void main(String[] args) {
-        counts();
+        least();
+        most();
+        tooFewAndTooMany();
         wholeDoor();
         doorWithoutAWay();
         wholeLift();
@@ -13,24 +15,40 @@ public final class TicksTest {
         riserWithoutAWay();
         manyTicksAreSingleTicks();
         moversOfOneTick();
+        aThousandTicksAtOnce();
         CHECK.done();
     }
 
-    private static void counts() {
+    /** "n TICKS, 0 .. 1000: TICKS" */
+    private static void least() {
         MoverHall hall = Halls.fourRooms();
+        hall.begin(1, 0);
+        String before = Halls.picture(hall);
         CHECK.is("ticks(0)", hall.ticks(0), 0);
-        CHECK.is("ticks(1)", hall.ticks(1), 1);
-        CHECK.is("ticks(1000)", hall.ticks(1000), 1001);
-        int[] wrong = {-1, 1001, Integer.MIN_VALUE, Integer.MAX_VALUE};
+        CHECK.is("nothing has moved", Halls.picture(hall), before);
+        hall.ticks(7);
+        CHECK.is("ticks(0)", hall.ticks(0), 7);
+        CHECK.is("ticks(1)", hall.ticks(1), 8);
+    }
+
+    private static void most() {
+        MoverHall hall = Halls.fourRooms();
+        CHECK.is("ticks(999)", hall.ticks(999), 999);
+        CHECK.is("ticks(1000)", hall.ticks(1000), 1999);
+        CHECK.is("look(2)", hall.look(2), 1999);
+    }
+
+    /** "NONE if there is no such n" */
+    private static void tooFewAndTooMany() {
+        MoverHall hall = Halls.fourRooms();
+        hall.begin(1, 0);
+        hall.ticks(3);
+        int[] wrong = {-1, -2, 1001, 1002, Integer.MIN_VALUE, Integer.MAX_VALUE};
         for (int w : wrong) {
             CHECK.is("ticks(" + w + ")", hall.ticks(w), NONE);
-            CHECK.is("look(2)", hall.look(2), 1001);
+            CHECK.is("look(2)", hall.look(2), 3);
+            CHECK.is("ceiling", hall.of(1, 1), 28);
         }
-        CHECK.is("ticks(0)", hall.ticks(0), 1001);
-        for (int i = 0; i < 100; i++) {
-            hall.ticks(1000);
-        }
-        CHECK.is("look(2)", hall.look(2), 101001);
     }
 
     private static void row(MoverHall hall, int tick, int what, int height, int mover, int way, int wait) {
@@ -64,6 +82,7 @@ public final class TicksTest {
         row(hall, 29, 1, 11, 0, 1, 0);
     }
 
+    /** It is at its TOP already: still "it takes a step", and only then "it WAITS .. from the next TICK on". */
     private static void doorWithoutAWay() {
         MoverHall hall = Halls.alone(0, 16);
         hall.begin(0, 0);
@@ -139,17 +158,29 @@ public final class TicksTest {
             for (int i = 0; i < n; i++) {
                 singly.ticks(1);
             }
-            CHECK.is(n + " ticks alike", Halls.picture(once).equals(Halls.picture(singly)), true);
+            CHECK.is(n + " ticks alike", Halls.picture(once), Halls.picture(singly));
         }
     }
 
+    /** 32 MOVERS of which each is at its end: all end by one TICK. */
     private static void moversOfOneTick() {
-        MoverHall hall = new MoverHall();
-        for (int i = 0; i < 32; i++) {
-            hall.sector(0, 100, 0, 0, 0);
-        }
-        CHECK.is("tag(0, 2)", hall.tag(0, 2), 32);
+        MoverHall hall = Halls.full();
+        CHECK.is("tag(5, 2)", hall.tag(5, 2), 32);
         hall.ticks(1);
         CHECK.is("all ended", hall.look(3), 0);
+    }
+
+    /** A thousand TICKS go through several ways, waits and ends at once. */
+    private static void aThousandTicksAtOnce() {
+        MoverHall hall = Halls.fourRooms();
+        hall.tag(7, 0);
+        hall.tag(9, 1);
+        hall.ticks(1000);
+        CHECK.is("all ended", hall.look(3), 0);
+        int[][] due = {{0, 0}, {0, 0}, {24, 120}, {-40, 90}};
+        for (int i = 0; i < due.length; i++) {
+            CHECK.is("floor of " + i, hall.of(i, 0), due[i][0]);
+            CHECK.is("ceiling of " + i, hall.of(i, 1), due[i][1]);
+        }
     }
 }

@@ -20,7 +20,7 @@ public final class WildCallsTest {
             String before = Halls.picture(hall);
             boolean refused = wildCall(hall, random);
             if (refused) {
-                CHECK.is("nothing changed", Halls.picture(hall).equals(before), true);
+                CHECK.is("nothing changed", Halls.picture(hall), before);
             }
             heightsFit(hall);
         }
