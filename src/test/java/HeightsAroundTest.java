@@ -109,6 +109,8 @@ public final class HeightsAroundTest {
         CHECK.is("high floor of 0", hall.of(0, HIGH_FLOOR), 31);
         CHECK.is("low ceiling of 0", hall.of(0, LOW_CEILING), 131);
         CHECK.is("low floor of 30", hall.of(30, LOW_FLOOR), 30);
+        MoverHall stairs = Halls.pair(10, 50, 0, 90);
+        CHECK.is("high floor beside 0", stairs.of(1, HIGH_FLOOR), 10);
     }
 
     private static void lowestAndHighest() {
