@@ -375,7 +375,8 @@ public final class MoverHall {
         private void dropMover() {
             mover = NONE;
             wayEnd = NONE;
-            go(STILL);
+            way = STILL;
+            waitLeft = 0;
         }
 
         private boolean hasNeighbour(int number) {
