@@ -3,7 +3,7 @@ import java.nio.file.Files;
 import java.nio.file.Path;
 import java.util.List;
 
-/** README.md's example of use: its answers are as told there, and it stands there as it does here. */
+/** README.md's example of use: what its calls answer, and that the page has these very calls. */
 public final class ReadmeTest {
     private static final Check CHECK = new Check();
     private static final List<String> EXAMPLE = List.of(
